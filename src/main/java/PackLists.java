@@ -181,8 +181,7 @@ public final class PackLists {
     }
 
     public int test(int bottle, int step, int result) {
-        boolean fine = stock.hasBottle(bottle) && result >= 0 && result < RESULTS;
-        if (!fine || stock.classes[bottle] != NONE || stock.steps[bottle] != step) {
+        if (!stock.hasBottle(bottle) || stock.classes[bottle] != NONE || stock.steps[bottle] != step) {
             return NO_TEST;
         }
         int told = now.outcomeOf(step, result);
