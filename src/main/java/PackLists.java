@@ -313,6 +313,15 @@ public final class PackLists {
             return noteCounts[language] < MOST_NOTES;
         }
 
+        boolean hasRoomForNotes() {
+            for (int l = 0; l < LANGUAGES; l++) {
+                if (hasRoomForNote(l)) {
+                    return true;
+                }
+            }
+            return false;
+        }
+
         boolean hasRoomForMark(int cls, int grams) {
             return placeOfMark(cls, grams) < MOST_MARKS;
         }
@@ -418,9 +427,14 @@ public final class PackLists {
             if (open == null) {
                 open = kindOf(start, end);
                 got = 0;
-                return open != null;
+                return open != null && canBegin(rules);
             }
             return takeNumber(numberOf(start, end), rules);
+        }
+
+        /** A mark may always begin: a full class can be told one of its own grams again. */
+        private boolean canBegin(Rules rules) {
+            return open != Kind.NOTE || rules.hasRoomForNotes();
         }
 
         private boolean takeNumber(int number, Rules rules) {

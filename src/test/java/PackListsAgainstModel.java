@@ -1,4 +1,5 @@
 import java.util.ArrayList;
+import java.util.Collections;
 import java.util.LinkedHashMap;
 import java.util.List;
 import java.util.Map;
@@ -52,7 +53,9 @@ public final class PackListsAgainstModel {
         int[][] limits = GRAMMAR.get(words.get(at));
         if (limits == null) return -1 - at;
         List<Object> sentence = new ArrayList<>();
-        sentence.add(words.get(at++));
+        sentence.add(words.get(at));
+        if (tooMany(fresh, sentence)) return -1 - at;
+        at++;
         for (int[] limit : limits) {
           if (at == words.size() || !words.get(at).matches("[0-9]{1,6}")) return -1 - at;
           int n = Integer.parseInt(words.get(at));
@@ -68,6 +71,9 @@ public final class PackListsAgainstModel {
     }
 
     static boolean tooMany(List<List<Object>> before, List<Object> begun) {
+      if (begun.equals(List.of("note"))) {
+        return before.stream().filter(t -> t.get(0).equals("note")).count() >= 4 * 8;
+      }
       if (begun.get(0).equals("note") && begun.size() == 2) {
         return before.stream().filter(t -> t.subList(0, 2).equals(begun)).count() >= 8;
       }
@@ -302,8 +308,17 @@ public final class PackListsAgainstModel {
     return String.valueOf(below(limit[1] + 1));
   }
 
+  /** Notes of all languages mixed, at most a few short of as many as there may be. */
+  private String manyNotes() {
+    List<String> notes = new ArrayList<>();
+    for (int i = 0; i < 32; i++) notes.add("note " + i % 4 + " " + below(9) + " ");
+    Collections.shuffle(notes, random);
+    return String.join("", notes.subList(below(3), notes.size()));
+  }
+
   private void tellText() {
     StringBuilder text = new StringBuilder();
+    if (below(20) == 0) text.append(manyNotes());
     String[] words = Model.GRAMMAR.keySet().toArray(new String[0]);
     int favourite = below(words.length);
     boolean many = below(4) == 0;

@@ -61,6 +61,7 @@ public final class PackListsPromises {
     rulesThatStand();
     rulesThatDoNot();
     rulesNotesAndMarks();
+    rulesWhereAllAreFull();
     rulesReplaceRules();
     bottle();
     box();
@@ -216,6 +217,31 @@ public final class PackListsPromises {
     dueRules(y, six + "mark 2 7", -27);
     dueRules(y, six + "mark 2", -27);
     dueRules(y, six + "mark 2 6 0", -28);
+  }
+
+  /** A new object for each text, as each takes most of an object's calls. */
+  private static void rulesWhereAllAreFull() {
+    promise = "promise 3";
+    String notes = "";
+    for (int i = 0; i < 32; i++) notes += "note " + i % 4 + " 0 ";
+    String butOne = notes.substring(0, notes.length() - "note 3 0 ".length());
+    dueRules(new PackLists(), notes, 32);
+    dueRules(new PackLists(), notes + "note", -97);
+    dueRules(new PackLists(), notes + "note 0 0", -97);
+    dueRules(new PackLists(), notes + "note 4", -97);
+    dueRules(new PackLists(), notes + "notes", -97);
+    dueRules(new PackLists(), notes + "free 1 note 2", -99);
+    dueRules(new PackLists(), notes + "free note", -98);
+    dueRules(new PackLists(), butOne + "note", -95);
+    dueRules(new PackLists(), butOne + "note 2", -95);
+    dueRules(new PackLists(), butOne + "note 3", -96);
+    dueRules(new PackLists(), butOne + "note 3 7", 32);
+
+    PackLists again = new PackLists();
+    dueRules(again, notes + "note", -97);
+    due("note(0, 0) after a bad text", again.note(0, 0), NONE);
+    dueRules(again, "note 0 5", 1);
+    due("note(0, 0) of the next text", again.note(0, 0), 5);
   }
 
   private static void rulesReplaceRules() {
